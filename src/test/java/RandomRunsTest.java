@@ -5,7 +5,6 @@ import java.util.TreeMap;
 /** Runs of calls drawn with fixed seeds: the program answers each call as the model does. */
 public final class RandomRunsTest {
     private static final int RUNS = 12000;
-    private static final int MOST_CALLS = 512;
     /** More than a step and the looks at the end need. */
     private static final int LAST_CALLS = 60;
     private static final int[] ODD = {-1, 0, 1, 2, 12, 16, 40, 41, 255, 256, -2, -3, Integer.MIN_VALUE, Integer.MAX_VALUE};
@@ -18,17 +17,16 @@ public final class RandomRunsTest {
     private static final Map<String, Integer> SEEN = new TreeMap<>();
 
     private final Random random;
-    private final SealedRecords x;
+    private final Counted x;
     private final Model model;
     private final boolean tamper;
     /** Nothing but data and whole messages, and nothing taken: such a run fills the items and the wires. */
     private final boolean calm;
-    private int calls = 0;
 
     private RandomRunsTest(long seed) {
         random = new Random(seed);
         int limit = LIMITS[random.nextInt(LIMITS.length)];
-        x = new SealedRecords(limit);
+        x = new Counted(limit);
         model = new Model(limit);
         calm = random.nextInt(4) == 0;
         tamper = !calm && random.nextInt(3) == 0;
@@ -56,7 +54,7 @@ public final class RandomRunsTest {
             shareSecret(s);
         }
         int afterwards = 0;
-        while (calls < MOST_CALLS - LAST_CALLS && afterwards < 30) {
+        while (x.calls() < Counted.MOST_CALLS - LAST_CALLS && afterwards < 30) {
             step();
             // little happens once both ends receive no more
             afterwards += model.look(0, 6) >= 0 && model.look(1, 6) >= 0 ? 1 : 0;
@@ -68,13 +66,11 @@ public final class RandomRunsTest {
             same("items", x.items(end), model.items(end));
             same("waiting", x.waiting(end), model.waiting(end));
         }
-        CHECK.yes("the run has at most 512 calls", calls <= MOST_CALLS);
     }
 
     private void same(String call, int got, int want) {
-        calls++;
         SEEN.merge(call + " " + want, 1, Integer::sum);
-        CHECK.due(call + " (call " + calls + ")", got, want);
+        CHECK.due(call + " (call " + x.calls() + ")", got, want);
     }
 
     private void same(String call, boolean got, boolean want) {
