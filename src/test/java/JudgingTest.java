@@ -27,6 +27,7 @@ public final class JudgingTest {
         longestMessage();
         openFromTheFirstByteToTheLast();
         severalMessagesInAContent();
+        oneBehindTheOther();
         goesOnBehindOtherRecords();
         goesOnWithTheNextContent();
         completedInTheContentWithTheLastByte();
@@ -203,6 +204,18 @@ public final class JudgingTest {
             Hand.send(x, 0, 22, 0, 0);
             alert("completed", x, 10);
         }
+        Counted y = Hand.atStage(1);
+        y.secret(1, 8);
+        y.key(1, true);
+        Hand.send(y, 0, 22, 0, 24, 1, 0);
+        alert("chain and sending are at stage 2, receiving at 1", y, 10);
+        Counted z = Hand.atStage(0);
+        for (int end = 0; end < 2; end++) {
+            z.secret(end, 7);
+            z.secret(end, 8);
+            z.key(end, end == 0);
+        }
+        CHECK.due("receiving is at stage 2, sending at 0", Hand.pass(z, 0, 22, 24, 1, 0), 3);
     }
 
     private static void keyChangeOfAnotherLength() {
@@ -355,6 +368,25 @@ public final class JudgingTest {
             Hand.pass(x, 0, 22, contents[i]);
             CHECK.due("open after content " + i, x.look(1, 7), open[i]);
         }
+    }
+
+    private static void oneBehindTheOther() {
+        CHECK.sentence("The contents with inner type 22 that an end was delivered, one behind the other, are messages");
+        Counted x = Hand.atStage(2);
+        Hand.pass(x, 0, 22, 9, 1, 5);
+        CHECK.due("data is not among them", Hand.pass(x, 0, 23, 9), 1);
+        CHECK.due("open", x.look(1, 7), 0);
+        Hand.pass(x, 0, 22, 9, 2);
+        CHECK.due("open", x.look(1, 7), 1);
+        Hand.pass(x, 1, 22, 8, 0);
+        CHECK.due("what the other end got is not among them", x.look(1, 7), 1);
+        x.take(1);
+        x.take(1);
+        x.take(1);
+        Hand.pass(x, 0, 22, 1);
+        CHECK.due("items that were taken are among them", x.look(1, 7), 1);
+        Hand.pass(x, 0, 22, 1);
+        CHECK.due("open", x.look(1, 7), 0);
     }
 
     private static void goesOnBehindOtherRecords() {

@@ -14,6 +14,7 @@ public final class KeysTest {
         secretAtStage2();
         secretLeavesTheSides();
         keySetsStageSecretAndCount();
+        keyLeavesTheRest();
         keyAnswersTheStage();
         keyOfNoEnd();
         keyOfAClosedSide();
@@ -24,6 +25,7 @@ public final class KeysTest {
         keyAfterTheMessageWasCompleted();
         advanceChangesTheSecret();
         advanceSetsTheCountBack();
+        advanceLeavesTheRest();
         advancePaysWhatIsOwed();
         advanceThatOwesNothing();
         advanceOfNoEnd();
@@ -131,6 +133,26 @@ public final class KeysTest {
         CHECK.due("only the receiving side", Hand.looks(x, 1), "2 1 0 0 2 0 -1 0 0 0");
         Hand.sealsWith(CHECK, "the new secret", x, 0, Formulas.sendingSecret(0, 7, 8));
         CHECK.due("received with the new secret", x.deliver(1), 2);
+    }
+
+    private static void keyLeavesTheRest() {
+        CHECK.sentence("gets the chain's stage and the secret that the chain gives it, and the count 0.");
+        Counted x = new Counted(100);
+        for (int end = 0; end < 2; end++) {
+            x.secret(end, 7);
+            x.secret(end, 8);
+            x.key(end, end == 0);
+        }
+        Hand.pass(x, 0, 22, 24, 1, 1);
+        x.write(1, 5);
+        Hand.send(x, 0, 23, 0, 6);
+        String wire = Hand.wire(x, 1);
+        CHECK.due("key", x.key(1, true), 2);
+        CHECK.due("what is owed and the draft stay", Hand.looks(x, 1), "2 2 0 0 2 0 -1 0 1 1");
+        CHECK.due("items and wire stay", Hand.oldestItem(x, 1) + Hand.wire(x, 1), "22: 24 1 1" + wire);
+        CHECK.due("the draft is sealed with the new secret", x.seal(1, 23, 0), 10);
+        int[] due = Formulas.payload(Formulas.sendingSecret(1, 7, 8), 0, 5, 23);
+        CHECK.due("record", Hand.record(x, 0, 0), Hand.record(23, due));
     }
 
     private static void keyAnswersTheStage() {
@@ -279,6 +301,21 @@ public final class KeysTest {
             CHECK.due("the other end's stay", Hand.looks(x, 1 - end), "2 2 2 0 2 0 -1 0 0 0");
             CHECK.due("seal again", x.seal(end, 23, 0), 9);
         }
+    }
+
+    private static void advanceLeavesTheRest() {
+        CHECK.sentence("The secret of the end's sending side becomes MIX(secret, 6), its count 0, and the end owes no change any more.");
+        Counted x = Hand.atStage(2);
+        Hand.pass(x, 1, 22, 9);
+        Hand.send(x, 1, 22, 0, 0);
+        Hand.send(x, 0, 23, 0, 6);
+        Hand.write(x, 0, 5, 6);
+        String wires = Hand.wire(x, 0) + Hand.wire(x, 1);
+        x.advance(0);
+        CHECK.due("draft, message and receiving side stay", Hand.looks(x, 0), "2 2 0 0 2 1 -1 1 0 2");
+        CHECK.due("the wires stay", Hand.wire(x, 0) + Hand.wire(x, 1), wires);
+        CHECK.due("the message goes on", x.deliver(0), 1);
+        CHECK.due("what was sealed before is received", x.deliver(1), 1);
     }
 
     private static void advancePaysWhatIsOwed() {

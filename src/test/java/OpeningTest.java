@@ -27,6 +27,7 @@ public final class OpeningTest {
         tagOfAnotherSecret();
         tagOfAnotherCount();
         countGrows();
+        countGrowsFar();
         countStaysWhateverFollows();
         countDoesNotGrow();
         limitDoesNotBindTheReceiving();
@@ -364,6 +365,23 @@ public final class OpeningTest {
             CHECK.due("the other counts of that end", x.look(1, 2), 0);
             CHECK.due("the receiving count of the other end", x.look(0, 5), 0);
         }
+    }
+
+    /** As far as 512 calls go, for each record must be sealed, delivered and taken. */
+    private static void countGrowsFar() {
+        CHECK.sentence("In all other cases the count grows by 1");
+        Counted x = new Counted(1000);
+        for (int end = 0; end < 2; end++) {
+            x.secret(end, 7);
+            x.secret(end, 8);
+            x.key(end, end == 0);
+        }
+        for (int n = 0; n < 168; n++) {
+            x.seal(0, 23, 0);
+            CHECK.due("deliver", x.deliver(1), 0);
+            x.take(1);
+        }
+        CHECK.due("count", x.look(1, 5), 168);
     }
 
     private static void countStaysWhateverFollows() {

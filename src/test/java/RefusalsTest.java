@@ -5,6 +5,8 @@ import java.util.function.ToIntFunction;
 /** All promises: a refused call changes nothing, and answers the refusal that its comment names first. */
 public final class RefusalsTest {
     private static final Check CHECK = new Check();
+    private static final String NOTHING = "A call that answers a number below 0 (other than deliver's CLOSED) or false changes nothing";
+    private static final String FIRST = "where several of its refusals hold, the one that its comment names first is answered.";
     private static final int BAD = SealedRecords.BAD;
     private static final int CLOSED = SealedRecords.CLOSED;
     private static final int EXHAUSTED = SealedRecords.EXHAUSTED;
@@ -76,8 +78,6 @@ public final class RefusalsTest {
         x.deliver(1);
         return x;
     }
-
-    private static final String NOTHING = "A call that answers a number below 0 (other than deliver's CLOSED) or false changes nothing";
 
     private static void changesNothingWithoutAnEnd() {
         CHECK.sentence(NOTHING);
@@ -302,8 +302,6 @@ public final class RefusalsTest {
         refused("item of no byte", () -> busy(2), x -> x.item(1, 2), NONE);
         refused("reason when not closed", () -> busy(2), x -> x.look(1, 6), NONE);
     }
-
-    private static final String FIRST = "where several of its refusals hold, the one that its comment names first is answered.";
 
     private static void sealAnswersNoneFirst() {
         CHECK.sentence(FIRST);

@@ -7,6 +7,7 @@ public final class TermsTest {
         mixWrapsInTheTests();
         mixWrapsInTheProgram();
         sealedBytesWorkedOutElsewhere();
+        endsZeroAndOne();
         chainAndStageAtFirst();
         sidesAtFirst();
         secretsOfTheSides();
@@ -25,6 +26,7 @@ public final class TermsTest {
         sealingEveryType();
         sealingWithTheCount();
         maskOfEachByte();
+        tagOfEachLength();
         theLastCall();
         CHECK.finish();
     }
@@ -67,6 +69,25 @@ public final class TermsTest {
         y.advance(1);
         Hand.send(y, 1, 22, 0, 24, 1, 0);
         CHECK.due("stage 2, advanced", Hand.record(y, 0, 2), "23: 198 211 198 173 14 184 178 245 146 94 25 195");
+    }
+
+    private static void endsZeroAndOne() {
+        CHECK.sentence("ENDS 0 and 1.");
+        Counted x = new Counted(100);
+        for (int end = -3; end <= 4; end++) {
+            CHECK.due("waiting(" + end + ")", x.waiting(end), end == 0 || end == 1 ? 0 : SealedRecords.NONE);
+        }
+        for (int bit = 1; bit < 32; bit++) {
+            CHECK.due("an end of which only the lowest bit is one's", x.waiting(1 << bit | 1), SealedRecords.NONE);
+        }
+        Hand.write(x, 0, 5);
+        Hand.write(x, 1, 6, 0);
+        x.seal(0, 22, 0);
+        x.seal(1, 22, 0);
+        CHECK.due("each end delivers what the other sealed", x.deliver(0), 2);
+        CHECK.due("each end delivers what the other sealed", x.deliver(1), 1);
+        CHECK.due("each end has its own messages", x.look(0, 7), 0);
+        CHECK.due("each end has its own messages", x.look(1, 7), 1);
     }
 
     private static void chainAndStageAtFirst() {
@@ -323,6 +344,22 @@ public final class TermsTest {
         for (int i = 0; i < 17; i++) {
             long mask = Formulas.mix(Formulas.mix(Formulas.mix(secret, 1), 0), i);
             CHECK.due("byte " + i, x.wire(1, 0, i + 1), mask >>> 40 & 255);
+        }
+    }
+
+    private static void tagOfEachLength() {
+        CHECK.sentence("t = MIX(MIX(MIX(secret, 2), n), m), and then for each of the m bytes b, in order, t becomes MIX(t, b); the last t is the TAG.");
+        long secret = Formulas.sendingSecret(0, 7);
+        for (int m = 1; m <= 17; m++) {
+            Counted x = Hand.atStage(1);
+            x.seal(0, 22, m - 1);
+            long t = Formulas.mix(Formulas.mix(Formulas.mix(secret, 2), 0), m);
+            for (int i = 1; i <= m; i++) {
+                t = Formulas.mix(t, x.wire(1, 0, i));
+            }
+            for (int i = 0; i < 8; i++) {
+                CHECK.due("byte " + i + " of the tag of " + m, x.wire(1, 0, m + 1 + i), t >>> 56 - 8 * i & 255);
+            }
         }
     }
 
